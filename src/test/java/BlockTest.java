@@ -1,19 +1,31 @@
 /** Promise 5: what a BLOCK can become, and that it is new then. */
 public final class BlockTest {
+    private static final double[] ANY = {Double.NaN, Double.NEGATIVE_INFINITY, Double.POSITIVE_INFINITY, -1e300,
+        0.5, 1001};
+
     public static void main(String[] args) {
         Check check = new Check();
         answersTheKindItWas(check);
-        edgesOfTheNumbers(check);
-        whatIsNotLookedAtMayBeAnything(check);
-        wrongKinds(check);
-        wrongCounts(check);
-        wrongBits(check);
-        wrongRegisters(check);
-        wrongSettings(check);
-        wrongPlaces(check);
-        itIsNew(check);
-        guardedStays(check);
-        refusedCallsChangeNothing(check);
+        kindIsFromZeroToNine(check);
+        countIsFromOneTo1000(check);
+        countIsAWholeNumber(check);
+        countIsANumber(check);
+        bitIsFromEightTo21(check);
+        firstRegisterIsFromZeroToSeven(check);
+        secondRegisterIsFromZeroToSeven(check);
+        thirdRegisterIsFromZeroToSeven(check);
+        settingIsFromMinus1000To1000(check);
+        nothingTakesAnyNumbers(check);
+        countingKindsTakeAnyRegisters(check);
+        reachAndArithmeticTakeAnySetting(check);
+        blockIsFromZeroToSeven(check);
+        numbersComeBeforePlaces(check);
+        aNewDelayHasCountedNothing(check);
+        aNewCounterHasCountedNothing(check);
+        aNewRegulatorHasNoSum(check);
+        aNewBlockHasNoRunsAndFaults(check);
+        guardedStaysAsItWas(check);
+        aRefusedCallChangesNothing(check);
         check.end("BlockTest");
     }
 
@@ -27,165 +39,257 @@ public final class BlockTest {
         }
     }
 
-    private static void edgesOfTheNumbers(Check check) {
+    /** A block whose numbers are the last or the first that are as said. */
+    private static int become(ScanForge x, int k, int kind) {
+        return x.block(k, kind, 7, 0, kind < 4 ? 21 : 7, 1000);
+    }
+
+    // "IllegalArgumentException if a number is not as said"
+    private static void kindIsFromZeroToNine(Check check) {
+        ScanForge x = new ScanForge();
+        Edges.numbers(check, "kind", 0, 9, kind -> become(x, 0, kind));
+    }
+
+    // "1, 2 with n (a whole number from 1 to 1000)"
+    private static void countIsFromOneTo1000(Check check) {
         ScanForge x = new ScanForge();
         for (int kind = 1; kind < 3; kind++) {
-            x.block(0, kind, 0, 0, 8, 1);
-            x.block(0, kind, 0, 0, 21, 1000);
-            check.same("counting kinds", x.told(0, 0), kind);
-        }
-        x.block(0, 3, 0, 7, 8, 0);
-        x.block(0, 3, 7, 0, 21, 0);
-        check.same("reach", x.told(0, 0), 3);
-        for (int kind = 4; kind < 10; kind++) {
-            x.block(0, kind, 0, 7, 7, -1000);
-            x.block(0, kind, 7, 0, 0, 1000);
-            check.same("registers", x.told(0, 0), kind);
-        }
-        check.same("first block", x.block(0, 0, 0, 0, 0, 0), 9);
-        check.same("last block", x.block(7, 0, 0, 0, 0, 0), 0);
-    }
-
-    private static void whatIsNotLookedAtMayBeAnything(Check check) {
-        ScanForge x = new ScanForge();
-        Rig.wires(x, 0, 0);
-        x.coil(0, 0, Rig.BLOCK, 0);
-        for (double n : new double[] {Double.NaN, Double.NEGATIVE_INFINITY, -1e300, 0.5}) {
-            x.block(0, 0, Integer.MIN_VALUE, -1, Integer.MAX_VALUE, n);
-            x.scan(1);
-            x.block(0, 1, Integer.MIN_VALUE, 99, 8, 1);
-            x.scan(1);
-            x.block(0, 2, -1, Integer.MAX_VALUE, 8, 1);
-            x.scan(1);
-            x.block(0, 3, 0, 1, 9, n);
-            x.scan(1);
-            for (int kind = 4; kind < 7; kind++) {
-                x.block(0, kind, 0, 1, 2, n);
-                x.scan(1);
+            int k = kind;
+            for (double n : new double[] {1, 2, 999, 1000}) {
+                check.takes("kind " + kind + " to " + n, () -> x.block(0, k, 0, 0, 8, n));
             }
-            x.set(1, 2);
-            x.block(0, 7, 0, 1, 2, n);
-            x.scan(1);
-        }
-        check.same("all went well", x.count(3), 0);
-        check.same("last kind", x.told(0, 0), 7);
-    }
-
-    private static void wrongKinds(Check check) {
-        ScanForge x = new ScanForge();
-        for (int kind : new int[] {-1, 10, Integer.MIN_VALUE, Integer.MAX_VALUE}) {
-            check.raises("kind " + kind, Check.BAD_NUMBER, () -> x.block(0, kind, 0, 0, 0, 1));
-            check.raises("kind first " + kind, Check.BAD_NUMBER, () -> x.block(8, kind, 0, 0, 0, 1));
+            double[] wrong = {0, -0.0, -1, -1000, 1001, 65537, 4294967297.0, 1e12, -1e300};
+            for (double n : wrong) {
+                check.raises("kind " + kind + " to " + n, Check.BAD_NUMBER, () -> x.block(0, k, 0, 0, 8, n));
+            }
         }
     }
 
-    private static void wrongCounts(Check check) {
+    private static void countIsAWholeNumber(Check check) {
         ScanForge x = new ScanForge();
-        double[] wrong = {0, -1, 0.5, 1.5, 999.999, 1000.5, 1001, 1e12, -1e300, Double.MIN_VALUE,
-            Double.NaN, Double.POSITIVE_INFINITY, Double.NEGATIVE_INFINITY, 4294967297.0};
+        double[] wrong = {Math.nextDown(1.0), Math.nextUp(1.0), 1.5, Math.nextDown(2.0), Math.nextUp(2.0), 500.25,
+            Math.nextDown(1000.0), Math.nextUp(1000.0), 0.5, Double.MIN_VALUE};
         for (int kind = 1; kind < 3; kind++) {
             int k = kind;
             for (double n : wrong) {
                 check.raises("kind " + kind + " to " + n, Check.BAD_NUMBER, () -> x.block(0, k, 0, 0, 8, n));
-                check.raises("count first " + n, Check.BAD_NUMBER, () -> x.block(-1, k, 0, 0, 8, n));
             }
         }
     }
 
-    private static void wrongBits(Check check) {
+    private static void countIsANumber(Check check) {
+        ScanForge x = new ScanForge();
+        for (int kind = 1; kind < 3; kind++) {
+            int k = kind;
+            for (double n : new double[] {Double.NaN, Double.POSITIVE_INFINITY, Double.NEGATIVE_INFINITY}) {
+                check.raises("kind " + kind + " to " + n, Check.BAD_NUMBER, () -> x.block(0, k, 0, 0, 8, n));
+            }
+        }
+    }
+
+    // "and BIT c (8 to 21); 3 with REGISTERS a, b and BIT c"
+    private static void bitIsFromEightTo21(Check check) {
         ScanForge x = new ScanForge();
         for (int kind = 1; kind < 4; kind++) {
             int k = kind;
-            for (int c : new int[] {-1, 0, 7, 22, 23, 24, Integer.MIN_VALUE, Integer.MAX_VALUE}) {
-                check.raises("kind " + kind + " bit " + c, Check.BAD_NUMBER, () -> x.block(0, k, 0, 0, c, 1));
-                check.raises("bit first " + c, Check.BAD_NUMBER, () -> x.block(9, k, 0, 0, c, 1));
-            }
+            Edges.numbers(check, "bit of kind " + kind, 8, 21, c -> x.block(0, k, 0, 0, c, 1));
+            check.raises("bit 0 of kind " + kind, Check.BAD_NUMBER, () -> x.block(0, k, 0, 0, 0, 1));
+            check.raises("bit 23 of kind " + kind, Check.BAD_NUMBER, () -> x.block(0, k, 0, 0, 23, 1));
         }
     }
 
-    private static void wrongRegisters(Check check) {
+    // "4 to 7 with REGISTERS a, b, c; 8, 9 with these"
+    private static void firstRegisterIsFromZeroToSeven(Check check) {
         ScanForge x = new ScanForge();
         for (int kind = 3; kind < 10; kind++) {
             int k = kind;
-            int c = kind == 3 ? 8 : 0;
-            for (int i : new int[] {-1, 8, Integer.MIN_VALUE, Integer.MAX_VALUE}) {
-                check.raises("kind " + kind + " a " + i, Check.BAD_NUMBER, () -> x.block(0, k, i, 0, c, 1));
-                check.raises("kind " + kind + " b " + i, Check.BAD_NUMBER, () -> x.block(0, k, 0, i, c, 1));
-                check.raises("a first " + i, Check.BAD_NUMBER, () -> x.block(8, k, i, 0, c, 1));
-                if (kind > 3) {
-                    check.raises("kind " + kind + " c " + i, Check.BAD_NUMBER, () -> x.block(0, k, 0, 0, i, 1));
-                }
-            }
+            int c = kind == Rig.REACH ? 8 : 0;
+            Edges.numbers(check, "a of kind " + kind, 0, 7, a -> x.block(0, k, a, 0, c, 1));
         }
     }
 
-    private static void wrongSettings(Check check) {
+    private static void secondRegisterIsFromZeroToSeven(Check check) {
         ScanForge x = new ScanForge();
-        double[] wrong = {1000.0000001, -1000.0000001, 1001, -1001, 1e300,
-            Double.NaN, Double.POSITIVE_INFINITY, Double.NEGATIVE_INFINITY};
+        for (int kind = 3; kind < 10; kind++) {
+            int k = kind;
+            int c = kind == Rig.REACH ? 8 : 0;
+            Edges.numbers(check, "b of kind " + kind, 0, 7, b -> x.block(0, k, 0, b, c, 1));
+        }
+    }
+
+    private static void thirdRegisterIsFromZeroToSeven(Check check) {
+        ScanForge x = new ScanForge();
+        for (int kind = 4; kind < 10; kind++) {
+            int k = kind;
+            Edges.numbers(check, "c of kind " + kind, 0, 7, c -> x.block(0, k, 0, 0, c, 1));
+        }
+    }
+
+    // "and n (-1000 to 1000)"
+    private static void settingIsFromMinus1000To1000(Check check) {
+        ScanForge x = new ScanForge();
         for (int kind = 8; kind < 10; kind++) {
             int k = kind;
-            for (double n : wrong) {
-                check.raises("kind " + kind + " with " + n, Check.BAD_NUMBER, () -> x.block(0, k, 0, 0, 0, n));
-                check.raises("setting first " + n, Check.BAD_NUMBER, () -> x.block(8, k, 0, 0, 0, n));
+            Edges.doubles(check, "n of kind " + kind, -1000, 1000, n -> x.block(0, k, 0, 0, 0, n));
+        }
+    }
+
+    // "What is not looked at may be anything."
+    private static void nothingTakesAnyNumbers(Check check) {
+        ScanForge x = Rig.withBlock(0, 0, 0, 0, 0);
+        for (double n : ANY) {
+            check.takes("n " + n, () -> x.block(0, 0, Integer.MIN_VALUE, -1, Integer.MAX_VALUE, n));
+            check.takes("other n " + n, () -> x.block(0, 0, 8, Integer.MAX_VALUE, -1, n));
+            check.takes("scan", () -> x.scan(1));
+        }
+        check.same("nothing is done", x.count(2), 1);
+    }
+
+    private static void countingKindsTakeAnyRegisters(Check check) {
+        ScanForge x = Rig.withBlock(0, 0, 0, 0, 0);
+        for (int kind = 1; kind < 3; kind++) {
+            int k = kind;
+            for (int any : new int[] {-1, 8, Integer.MIN_VALUE, Integer.MAX_VALUE}) {
+                check.takes("a " + any, () -> x.block(0, k, any, 0, 8, 1));
+                check.takes("scan", () -> x.scan(1));
+                check.takes("b " + any, () -> x.block(0, k, 0, any, 8, 1));
+                check.takes("scan", () -> x.scan(1));
+                check.same("kind " + kind + " counts", x.bit(8), true);
             }
         }
-        check.same("nothing was changed", x.told(0, 0), 0);
     }
 
-    private static void wrongPlaces(Check check) {
-        ScanForge x = new ScanForge();
-        for (int k : new int[] {-1, 8, Integer.MIN_VALUE, Integer.MAX_VALUE}) {
-            check.raises("nothing " + k, Check.BAD_PLACE, () -> x.block(k, 0, 0, 0, 0, 0));
-            check.raises("delay " + k, Check.BAD_PLACE, () -> x.block(k, 1, 0, 0, 8, 1));
-            check.raises("regulator " + k, Check.BAD_PLACE, () -> x.block(k, 9, 0, 0, 0, 1));
+    private static void reachAndArithmeticTakeAnySetting(Check check) {
+        ScanForge x = Rig.withBlock(0, 0, 0, 0, 0);
+        x.set(0, 1);
+        x.set(1, 2);
+        double[] due = {3, -1, 2, 0.5};
+        for (double n : ANY) {
+            check.takes("reach with " + n, () -> x.block(0, Rig.REACH, 0, 1, 9, n));
+            check.takes("scan", () -> x.scan(1));
+            check.same("reach with " + n, x.bit(9), true);
+            for (int kind = 4; kind < 8; kind++) {
+                int k = kind;
+                check.takes("kind " + kind + " with " + n, () -> x.block(0, k, 0, 1, 2, n));
+                check.takes("scan", () -> x.scan(1));
+                check.same("kind " + kind + " with " + n, x.register(2), due[kind - 4]);
+            }
         }
     }
 
-    private static void itIsNew(Check check) {
+    // "IndexOutOfBoundsException if there is no BLOCK k"
+    private static void blockIsFromZeroToSeven(Check check) {
+        for (int kind = 0; kind < 10; kind++) {
+            int which = kind;
+            ScanForge x = new ScanForge();
+            Edges.places(check, "block of kind " + kind, 0, 7, k -> become(x, k, which));
+        }
+    }
+
+    // "IllegalArgumentException comes before IndexOutOfBoundsException"
+    private static void numbersComeBeforePlaces(Check check) {
+        double[][] wrong = {{-1, 0, 0, 8, 1}, {10, 0, 0, 8, 1}, {1, 0, 0, 7, 1}, {1, 0, 0, 22, 1}, {1, 0, 0, 8, 0},
+            {1, 0, 0, 8, 1001}, {1, 0, 0, 8, 1.5}, {1, 0, 0, 8, Double.NaN}, {2, 0, 0, 7, 1}, {2, 0, 0, 22, 1},
+            {2, 0, 0, 8, 0}, {2, 0, 0, 8, 1001}, {2, 0, 0, 8, 1.5}, {3, -1, 0, 8, 1}, {3, 0, 8, 8, 1}, {3, 0, 0, 22, 1},
+            {4, 8, 0, 0, 1}, {4, 0, 8, 0, 1}, {4, 0, 0, 8, 1}, {5, -1, 0, 0, 1}, {6, 0, -1, 0, 1}, {7, 0, 0, -1, 1},
+            {8, 8, 0, 0, 1}, {8, 0, 0, 0, 1001}, {8, 0, 0, 0, Double.NaN}, {9, 0, 8, 0, 1}, {9, 0, 0, 0, -1001},
+            {9, 0, 0, 0, Double.NaN}};
+        ScanForge x = new ScanForge();
+        for (double[] w : wrong) {
+            for (int k : new int[] {-1, 8, Integer.MIN_VALUE, Integer.MAX_VALUE}) {
+                String what = "block " + k + " kind " + w[0] + " " + w[1] + " " + w[2] + " " + w[3] + " " + w[4];
+                check.raises(what, Check.BAD_NUMBER,
+                    () -> x.block(k, (int) w[0], (int) w[1], (int) w[2], (int) w[3], w[4]));
+            }
+        }
+    }
+
+    // "BLOCK k becomes of this KIND, new"
+    private static void aNewDelayHasCountedNothing(Check check) {
+        ScanForge x = Rig.withBlock(Rig.DELAY, 0, 0, 8, 3);
+        x.scan(2);
+        check.same("same kind again", x.block(0, Rig.DELAY, 0, 0, 8, 3), Rig.DELAY);
+        check.same("nothing counted", x.told(0, 1), 0);
+        x.scan(2);
+        check.same("two of three", x.bit(8), false);
+        x.scan(1);
+        check.same("three of three", x.bit(8), true);
+        check.same("as a counter", x.block(0, Rig.COUNTER, 0, 0, 8, 5), Rig.DELAY);
+        check.same("nothing taken over", x.told(0, 1), 0);
+    }
+
+    private static void aNewCounterHasCountedNothing(Check check) {
         ScanForge x = Rig.withBlock(Rig.COUNTER, 0, 0, 8, 5);
         x.scan(1);
         check.same("counted", x.told(0, 1), 1);
         check.same("same kind again", x.block(0, Rig.COUNTER, 0, 0, 8, 5), Rig.COUNTER);
         check.same("nothing counted", x.told(0, 1), 0);
-        check.same("never run", x.told(0, 3), 0);
         x.scan(1);
-        check.same("no run before", x.told(0, 1), 1);
-
-        ScanForge y = Rig.withBlock(Rig.REGULATOR, 0, 1, 2, 1);
-        y.set(1, 8);
-        y.scan(3);
-        y.block(0, Rig.REGULATOR, 0, 1, 2, 1);
-        y.scan(1);
-        check.same("sum and e begin at 0", y.register(2), 13.0);
-
-        ScanForge z = Rig.withBlock(Rig.DIV, 0, 1, 2, 0);
-        z.guard(0, true);
-        z.scan(3);
-        check.same("faults", z.told(0, 4), 3);
-        z.block(0, Rig.DIV, 0, 1, 2, 0);
-        check.same("no faults", z.told(0, 4), 0);
-        check.same("faults in all", z.count(3), 3);
+        check.same("there was no run before", x.told(0, 1), 1);
+        x.block(0, Rig.DELAY, 0, 0, 8, 5);
+        x.scan(1);
+        x.block(0, Rig.COUNTER, 0, 0, 8, 5);
+        x.scan(1);
+        check.same("nor one as another kind", x.told(0, 1), 1);
     }
 
-    private static void guardedStays(Check check) {
-        ScanForge x = new ScanForge();
-        x.guard(4, true);
-        x.block(4, Rig.ADD, 0, 0, 0, 0);
-        check.same("guarded", x.told(4, 2), 1);
-        x.guard(4, false);
-        x.block(4, Rig.SUB, 0, 0, 0, 0);
-        check.same("not guarded", x.told(4, 2), 0);
+    private static void aNewRegulatorHasNoSum(Check check) {
+        ScanForge x = Rig.withBlock(Rig.REGULATOR, 0, 1, 2, 1);
+        x.set(1, 8);
+        x.scan(3);
+        x.block(0, Rig.REGULATOR, 0, 1, 2, 1);
+        x.scan(1);
+        check.same("sum and e begin at 0", x.register(2), 13.0);
+        x.block(0, Rig.ADD, 0, 1, 2, 1);
+        x.block(0, Rig.REGULATOR, 0, 1, 2, 1);
+        x.scan(1);
+        check.same("sum and e begin at 0 again", x.register(2), 13.0);
     }
 
-    private static void refusedCallsChangeNothing(Check check) {
+    private static void aNewBlockHasNoRunsAndFaults(Check check) {
+        ScanForge x = Rig.withBlock(Rig.DIV, 0, 1, 2, 0);
+        x.guard(0, true);
+        x.scan(3);
+        check.same("runs", x.told(0, 3), 3);
+        check.same("faults", x.told(0, 4), 3);
+        x.block(0, Rig.DIV, 0, 1, 2, 0);
+        check.same("no runs", x.told(0, 3), 0);
+        check.same("no faults", x.told(0, 4), 0);
+        check.same("faults in all", x.count(3), 3);
+    }
+
+    // "(but GUARDED, or not, as it was)"
+    private static void guardedStaysAsItWas(Check check) {
+        ScanForge x = Rig.withBlock(Rig.DIV, 0, 1, 2, 0);
+        for (int kind = 0; kind < 10; kind++) {
+            x.guard(0, true);
+            become(x, 0, kind);
+            check.same("guarded " + kind, x.told(0, 2), 1);
+            x.guard(0, false);
+            become(x, 0, kind);
+            check.same("not guarded " + kind, x.told(0, 2), 0);
+        }
+        x.guard(0, true);
+        x.block(0, Rig.DIV, 0, 1, 2, 0);
+        check.same("a fault goes on", Rig.halts(x), false);
+        x.guard(0, false);
+        x.block(0, Rig.DIV, 0, 1, 2, 0);
+        check.same("a fault halts", Rig.halts(x), true);
+    }
+
+    private static void aRefusedCallChangesNothing(Check check) {
         ScanForge x = Rig.withBlock(Rig.DELAY, 0, 0, 8, 3);
         x.scan(2);
-        check.raises("count", Check.BAD_NUMBER, () -> x.block(0, Rig.DELAY, 0, 0, 8, 1.5));
+        check.raises("count", Check.BAD_NUMBER, () -> x.block(0, Rig.DELAY, 0, 0, 9, 1.5));
+        check.raises("bit", Check.BAD_NUMBER, () -> x.block(0, Rig.COUNTER, 0, 0, 22, 1));
+        check.raises("register", Check.BAD_NUMBER, () -> x.block(0, Rig.ADD, 0, 0, 8, 1));
+        check.raises("kind", Check.BAD_NUMBER, () -> x.block(0, 10, 0, 0, 8, 1));
+        check.raises("block", Check.BAD_PLACE, () -> x.block(8, Rig.DELAY, 0, 0, 9, 1));
         check.same("kind stays", x.told(0, 0), Rig.DELAY);
         check.same("counted stays", x.told(0, 1), 2);
         check.same("runs stay", x.told(0, 3), 2);
         x.scan(1);
         check.same("goes on", x.bit(8), true);
+        check.same("no other bit", x.bit(9), false);
     }
 }

@@ -29,6 +29,14 @@ final class Check {
         }
     }
 
+    void takes(String what, Call call) {
+        try {
+            call.answer();
+        } catch (RuntimeException e) {
+            tell(what + " threw " + e + ", due is an answer");
+        }
+    }
+
     void raises(String what, Class<? extends RuntimeException> due, Call call) {
         Object answer;
         try {

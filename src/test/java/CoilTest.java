@@ -10,8 +10,15 @@ public final class CoilTest {
         coilsActFromRowZeroOn(check);
         laterRungsSeeEarlierCoils(check);
         everyBitAndBlock(check);
-        wrongNumbers(check);
-        wrongPlaces(check);
+        setAndResetAreTakenTwice(check);
+        kindIsFromZeroToFour(check);
+        bitIsFromEightTo23(check);
+        blockIsFromZeroToSeven(check);
+        noneTakesAnyNumber(check);
+        rungIsFromZeroToFour(check);
+        rowIsFromZeroToTwo(check);
+        numbersComeBeforePlaces(check);
+        aRefusedCallChangesNothing(check);
         check.end("CoilTest");
     }
 
@@ -147,33 +154,88 @@ public final class CoilTest {
         }
     }
 
-    private static void wrongNumbers(Check check) {
+    private static void setAndResetAreTakenTwice(Check check) {
         ScanForge x = new ScanForge();
-        for (int kind : new int[] {-1, 5, Integer.MIN_VALUE, Integer.MAX_VALUE}) {
-            check.raises("kind " + kind, Check.BAD_NUMBER, () -> x.coil(0, 0, kind, 8));
-            check.raises("kind first " + kind, Check.BAD_NUMBER, () -> x.coil(9, 9, kind, 8));
-        }
-        for (int kind = 1; kind < 4; kind++) {
-            int k = kind;
-            for (int n : new int[] {-1, 0, 7, 24, Integer.MIN_VALUE, Integer.MAX_VALUE}) {
-                check.raises("bit " + n, Check.BAD_NUMBER, () -> x.coil(0, 0, k, n));
-                check.raises("bit first " + n, Check.BAD_NUMBER, () -> x.coil(-1, 0, k, n));
-            }
-        }
-        for (int n : new int[] {-1, 8, Integer.MIN_VALUE, Integer.MAX_VALUE}) {
-            check.raises("block " + n, Check.BAD_NUMBER, () -> x.coil(0, 0, Rig.BLOCK, n));
-            check.raises("block first " + n, Check.BAD_NUMBER, () -> x.coil(0, 3, Rig.BLOCK, n));
-        }
-        check.same("nothing was changed", x.coil(0, 0, 0, Integer.MIN_VALUE), 0);
-        check.same("scan with it", x.scan(1), 1);
+        Rig.wires(x, 0, 0);
+        x.coil(0, 0, Rig.SET, 23);
+        x.scan(2);
+        check.same("on stays on", x.bit(23), true);
+        x.coil(0, 0, Rig.RESET, 23);
+        x.scan(2);
+        check.same("off stays off", x.bit(23), false);
     }
 
-    private static void wrongPlaces(Check check) {
+    // "IllegalArgumentException if kind or n ... is not as said"
+    private static void kindIsFromZeroToFour(Check check) {
         ScanForge x = new ScanForge();
-        for (int i : new int[] {-1, 5, Integer.MIN_VALUE, Integer.MAX_VALUE}) {
-            check.raises("rung " + i, Check.BAD_PLACE, () -> x.coil(i, 0, 1, 8));
-            check.raises("row " + i, Check.BAD_PLACE, () -> x.coil(0, i, 1, 8));
+        Edges.numbers(check, "kind", 0, 4, kind -> x.coil(0, 0, kind, kind < Rig.BLOCK ? 8 : 7));
+    }
+
+    // "a BIT 8 to 23 for 1 to 3"
+    private static void bitIsFromEightTo23(Check check) {
+        ScanForge x = new ScanForge();
+        for (int kind = 1; kind < 4; kind++) {
+            int k = kind;
+            Edges.numbers(check, "bit of kind " + kind, 8, 23, n -> x.coil(0, 0, k, n));
+            check.raises("bit 0 of kind " + kind, Check.BAD_NUMBER, () -> x.coil(0, 0, k, 0));
         }
-        check.raises("row 3", Check.BAD_PLACE, () -> x.coil(0, 3, 0, 0));
+    }
+
+    // "a BLOCK for 4", and "a BLOCK (0 to 7)"
+    private static void blockIsFromZeroToSeven(Check check) {
+        ScanForge x = new ScanForge();
+        Edges.numbers(check, "block", 0, 7, n -> x.coil(0, 0, Rig.BLOCK, n));
+    }
+
+    private static void noneTakesAnyNumber(Check check) {
+        ScanForge x = new ScanForge();
+        Rig.wires(x, 0, 0);
+        for (int n : new int[] {-1, 0, 7, 8, 24, Integer.MIN_VALUE, Integer.MAX_VALUE}) {
+            check.takes("none of " + n, () -> x.coil(0, 0, 0, n));
+            check.takes("scan", () -> x.scan(1));
+            check.raises("place with " + n, Check.BAD_PLACE, () -> x.coil(5, 0, 0, n));
+        }
+        check.same("no bit is on", x.count(2), 0);
+    }
+
+    // "IndexOutOfBoundsException if there is no such RUNG or row"
+    private static void rungIsFromZeroToFour(Check check) {
+        ScanForge x = new ScanForge();
+        Edges.places(check, "rung", 0, 4, g -> x.coil(g, 0, Rig.OUT, 8));
+        Edges.places(check, "rung, last place", 0, 4, g -> x.coil(g, 2, Rig.BLOCK, 7));
+    }
+
+    private static void rowIsFromZeroToTwo(Check check) {
+        ScanForge x = new ScanForge();
+        Edges.places(check, "row", 0, 2, row -> x.coil(0, row, Rig.OUT, 8));
+        Edges.places(check, "row, last place", 0, 2, row -> x.coil(4, row, Rig.BLOCK, 7));
+    }
+
+    // "IllegalArgumentException comes before IndexOutOfBoundsException"
+    private static void numbersComeBeforePlaces(Check check) {
+        ScanForge x = new ScanForge();
+        int[][] places = {{-1, 0}, {5, 0}, {0, -1}, {0, 3}, {9, 9}};
+        int[][] numbers = {{-1, 8}, {5, 8}, {1, 7}, {1, 24}, {2, 7}, {2, 24}, {3, 7}, {3, 24}, {4, -1}, {4, 8}};
+        for (int[] p : places) {
+            for (int[] n : numbers) {
+                String what = "kind " + n[0] + " of " + n[1];
+                check.raises(what, Check.BAD_NUMBER, () -> x.coil(p[0], p[1], n[0], n[1]));
+            }
+        }
+    }
+
+    private static void aRefusedCallChangesNothing(Check check) {
+        ScanForge x = new ScanForge();
+        Rig.wires(x, 0, 2);
+        x.coil(0, 2, Rig.OUT, 9);
+        check.raises("bit", Check.BAD_NUMBER, () -> x.coil(0, 2, Rig.SET, 24));
+        check.raises("block", Check.BAD_NUMBER, () -> x.coil(0, 2, Rig.BLOCK, 8));
+        check.raises("row", Check.BAD_PLACE, () -> x.coil(0, 3, Rig.OUT, 10));
+        check.raises("row before", Check.BAD_PLACE, () -> x.coil(1, -1, Rig.OUT, 10));
+        x.scan(1);
+        check.same("its bit stays", x.bit(9), true);
+        check.same("no other bit", x.count(2), 1);
+        check.same("its kind stays", x.coil(0, 2, 0, 0), Rig.OUT);
+        check.same("the next rung's coil stays", x.coil(1, 0, 0, 0), 0);
     }
 }

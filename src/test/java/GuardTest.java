@@ -6,7 +6,8 @@ public final class GuardTest {
         aGuardedFaultGoesOn(check);
         otherBlocksAreNotGuarded(check);
         theGuardStaysOn(check);
-        wrongPlaces(check);
+        blockIsFromZeroToSeven(check);
+        aRefusedCallChangesNothing(check);
         check.end("GuardTest");
     }
 
@@ -71,10 +72,24 @@ public final class GuardTest {
         check.same("no fault, no guard bit", y.bit(23), false);
     }
 
-    private static void wrongPlaces(Check check) {
+    // "guard ... throws IndexOutOfBoundsException", for BLOCKS "0 to 7"
+    private static void blockIsFromZeroToSeven(Check check) {
         ScanForge x = new ScanForge();
-        for (int k : new int[] {-1, 8, Integer.MIN_VALUE, Integer.MAX_VALUE}) {
-            check.raises("block " + k, Check.BAD_PLACE, () -> x.guard(k, true));
+        Edges.places(check, "block on", 0, 7, k -> x.guard(k, true));
+        Edges.places(check, "block off", 0, 7, k -> x.guard(k, false));
+    }
+
+    private static void aRefusedCallChangesNothing(Check check) {
+        ScanForge x = new ScanForge();
+        check.raises("block -1", Check.BAD_PLACE, () -> x.guard(-1, true));
+        check.raises("block 8", Check.BAD_PLACE, () -> x.guard(8, true));
+        for (int k = 0; k < 8; k++) {
+            check.same("not guarded " + k, x.guard(k, true), false);
+        }
+        check.raises("block -1", Check.BAD_PLACE, () -> x.guard(-1, false));
+        check.raises("block 8", Check.BAD_PLACE, () -> x.guard(8, false));
+        for (int k = 0; k < 8; k++) {
+            check.same("guarded " + k, x.told(k, 2), 1);
         }
     }
 }

@@ -7,7 +7,11 @@ public final class LinkTest {
         everyPatternIsShared(check);
         linksStandBehindTheirColumn(check);
         linkedPowerGoesOn(check);
-        wrongPlaces(check);
+        powerComesByWayOfRowOne(check);
+        rungIsFromZeroToFour(check);
+        rowIsZeroOrOne(check);
+        columnIsFromZeroToThree(check);
+        aRefusedCallChangesNothing(check);
         check.end("LinkTest");
     }
 
@@ -93,15 +97,53 @@ public final class LinkTest {
         check.same("link behind the last column", x.bit(13), true);
     }
 
-    private static void wrongPlaces(Check check) {
-        ScanForge x = new ScanForge();
-        for (int i : new int[] {-1, 5, Integer.MIN_VALUE, Integer.MAX_VALUE}) {
-            check.raises("rung " + i, Check.BAD_PLACE, () -> x.link(i, 0, 0, true));
-            check.raises("row " + i, Check.BAD_PLACE, () -> x.link(0, i, 0, true));
-            check.raises("column " + i, Check.BAD_PLACE, () -> x.link(0, 0, i, true));
+    // "ROWS that are LINKED there (also by way of ROW 1) all have POWER if one of them has"
+    private static void powerComesByWayOfRowOne(Check check) {
+        for (int from = 0; from < 3; from += 2) {
+            for (int column = 0; column < 4; column++) {
+                ScanForge x = new ScanForge();
+                Rig.wires(x, 4, from);
+                x.link(4, 0, column, true);
+                x.link(4, 1, column, true);
+                x.scan(1);
+                for (int row = 0; row < 3; row++) {
+                    check.same("from " + from + " to " + row, x.power(4, row, column), true);
+                }
+                x.link(4, from == 0 ? 0 : 1, column, false);
+                x.scan(1);
+                check.same("not to row 1 any more", x.power(4, 1, column), false);
+                check.same("nor to the other end", x.power(4, 2 - from, column), false);
+            }
         }
-        check.raises("row 2", Check.BAD_PLACE, () -> x.link(0, 2, 0, true));
-        check.raises("column 4", Check.BAD_PLACE, () -> x.link(0, 0, 4, true));
-        check.same("last place", x.link(4, 1, 3, true), false);
+    }
+
+    // "IndexOutOfBoundsException if there is no such place (row 0, 1)"
+    private static void rungIsFromZeroToFour(Check check) {
+        ScanForge x = new ScanForge();
+        Edges.places(check, "rung", 0, 4, g -> x.link(g, 0, 0, true));
+        Edges.places(check, "rung, last place", 0, 4, g -> x.link(g, 1, 3, false));
+    }
+
+    private static void rowIsZeroOrOne(Check check) {
+        ScanForge x = new ScanForge();
+        Edges.places(check, "row", 0, 1, row -> x.link(0, row, 0, true));
+        Edges.places(check, "row, last place", 0, 1, row -> x.link(4, row, 3, false));
+    }
+
+    private static void columnIsFromZeroToThree(Check check) {
+        ScanForge x = new ScanForge();
+        Edges.places(check, "column", 0, 3, column -> x.link(0, 0, column, true));
+        Edges.places(check, "column, last place", 0, 3, column -> x.link(4, 1, column, false));
+    }
+
+    private static void aRefusedCallChangesNothing(Check check) {
+        ScanForge x = new ScanForge();
+        check.raises("row", Check.BAD_PLACE, () -> x.link(0, 2, 0, true));
+        check.raises("column", Check.BAD_PLACE, () -> x.link(0, 0, 4, true));
+        check.raises("column before", Check.BAD_PLACE, () -> x.link(0, 1, -1, true));
+        check.raises("rung", Check.BAD_PLACE, () -> x.link(5, 0, 0, true));
+        for (int i = 0; i < 40; i++) {
+            check.same("link " + i, x.link(i / 8, i / 4 % 2, i % 4, false), false);
+        }
     }
 }

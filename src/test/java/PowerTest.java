@@ -7,7 +7,10 @@ public final class PowerTest {
         allRowsFromTheLeft(check);
         changesWaitForAScan(check);
         staysForRungsNotLookedAt(check);
-        wrongPlaces(check);
+        falseForRungsThatNoScanReached(check);
+        rungIsFromZeroToFour(check);
+        rowIsFromZeroToTwo(check);
+        columnIsFromMinusOneToThree(check);
         check.end("PowerTest");
     }
 
@@ -75,17 +78,40 @@ public final class PowerTest {
         check.same("looked at again", x.power(1, 0, 3), false);
     }
 
-    private static void wrongPlaces(Check check) {
-        ScanForge x = new ScanForge();
-        for (int i : new int[] {-2, 5, Integer.MIN_VALUE, Integer.MAX_VALUE}) {
-            check.raises("rung " + i, Check.BAD_PLACE, () -> x.power(i, 0, 0));
-            check.raises("row " + i, Check.BAD_PLACE, () -> x.power(0, i, 0));
-            check.raises("column " + i, Check.BAD_PLACE, () -> x.power(0, 0, i));
+    // "in the latest SCAN that looked at it (false before one)"
+    private static void falseForRungsThatNoScanReached(Check check) {
+        for (int halting = 0; halting < 5; halting++) {
+            ScanForge x = new ScanForge();
+            for (int g = 0; g < 5; g++) {
+                Rig.wires(x, g, 2);
+            }
+            x.coil(halting, 2, Rig.BLOCK, 0);
+            x.block(0, Rig.DIV, 0, 1, 2, 0);
+            check.same("halts", Rig.halts(x), true);
+            for (int g = 0; g < 5; g++) {
+                String at = "halting " + halting + " rung " + g;
+                check.same(at + " before all", x.power(g, 0, -1), g <= halting);
+                check.same(at + " behind all", x.power(g, 2, 3), g <= halting);
+            }
         }
-        check.raises("rung -1", Check.BAD_PLACE, () -> x.power(-1, 0, 0));
-        check.raises("row -1", Check.BAD_PLACE, () -> x.power(0, -1, 0));
-        check.raises("row 3", Check.BAD_PLACE, () -> x.power(0, 3, 0));
-        check.raises("column 4", Check.BAD_PLACE, () -> x.power(0, 0, 4));
-        check.same("last place", x.power(4, 2, 3), false);
+    }
+
+    // "power ... throws IndexOutOfBoundsException", for RUNGS, ROWS and "a column (0 to 3; -1: before all)"
+    private static void rungIsFromZeroToFour(Check check) {
+        ScanForge x = new ScanForge();
+        Edges.places(check, "rung", 0, 4, g -> x.power(g, 0, -1));
+        Edges.places(check, "rung, last place", 0, 4, g -> x.power(g, 2, 3));
+    }
+
+    private static void rowIsFromZeroToTwo(Check check) {
+        ScanForge x = new ScanForge();
+        Edges.places(check, "row", 0, 2, row -> x.power(0, row, -1));
+        Edges.places(check, "row, last place", 0, 2, row -> x.power(4, row, 3));
+    }
+
+    private static void columnIsFromMinusOneToThree(Check check) {
+        ScanForge x = new ScanForge();
+        Edges.places(check, "column", -1, 3, column -> x.power(0, 0, column));
+        Edges.places(check, "column, last place", -1, 3, column -> x.power(4, 2, column));
     }
 }

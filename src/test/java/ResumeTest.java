@@ -2,17 +2,34 @@
 public final class ResumeTest {
     public static void main(String[] args) {
         Check check = new Check();
-        ScanForge x = new ScanForge();
-        check.same("new", x.resume(), -1);
+        answersMinusOneIfItWasNotHalted(check);
         for (int k = 0; k < 8; k++) {
-            haltAndResume(check, k);
+            answersTheBlockThatHalted(check, k);
         }
         keepsTheState(check);
         remembersTheBlockThatHalted(check);
+        answersTheLatestBlockThatHalted(check);
         check.end("ResumeTest");
     }
 
-    private static void haltAndResume(Check check, int k) {
+    // "-1 if it was not"
+    private static void answersMinusOneIfItWasNotHalted(Check check) {
+        ScanForge x = Rig.withBlock(Rig.DIV, 0, 1, 2, 0);
+        check.same("new", x.resume(), -1);
+        x.guard(0, true);
+        x.scan(1);
+        check.same("guarded fault", x.resume(), -1);
+        check.raises("refused scan", Check.BAD_NUMBER, () -> x.scan(51));
+        check.same("refused", x.resume(), -1);
+        x.guard(0, false);
+        Rig.halts(x);
+        check.raises("halted", Check.HALTED, () -> x.scan(1));
+        check.same("halted", x.resume(), 0);
+        check.same("not twice", x.resume(), -1);
+    }
+
+    // "the BLOCK that halted it", also 0 and 7
+    private static void answersTheBlockThatHalted(Check check, int k) {
         ScanForge x = new ScanForge();
         Rig.wires(x, 0, 0);
         x.coil(0, 0, Rig.BLOCK, k);
@@ -54,5 +71,17 @@ public final class ResumeTest {
         x.guard(2, true);
         check.same("still halted", x.count(1), 1);
         check.same("not the guarded one", x.resume(), 2);
+    }
+
+    private static void answersTheLatestBlockThatHalted(Check check) {
+        ScanForge x = Rig.withBlock(Rig.DIV, 0, 1, 2, 0);
+        Rig.wires(x, 4, 2);
+        x.coil(4, 2, Rig.BLOCK, 7);
+        x.block(7, Rig.DIV, 0, 1, 2, 0);
+        Rig.halts(x);
+        check.same("the first", x.resume(), 0);
+        x.input(0, false);
+        Rig.halts(x);
+        check.same("the other", x.resume(), 7);
     }
 }

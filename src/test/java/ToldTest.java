@@ -6,7 +6,9 @@ public final class ToldTest {
         tellsOfFaults(check);
         sinceItIsThisKind(check);
         othersHaveCountedNothing(check);
-        wrongNumbersComeFirst(check);
+        whatIsFromZeroToFour(check);
+        blockIsFromZeroToSeven(check);
+        numbersComeBeforePlaces(check);
         check.end("ToldTest");
     }
 
@@ -65,16 +67,28 @@ public final class ToldTest {
         }
     }
 
-    private static void wrongNumbersComeFirst(Check check) {
+    // "IllegalArgumentException for another what"
+    private static void whatIsFromZeroToFour(Check check) {
+        ScanForge x = new ScanForge();
+        Edges.numbers(check, "what of block 0", 0, 4, what -> x.told(0, what));
+        Edges.numbers(check, "what of block 7", 0, 4, what -> x.told(7, what));
+    }
+
+    // "IndexOutOfBoundsException for another k"
+    private static void blockIsFromZeroToSeven(Check check) {
+        ScanForge x = new ScanForge();
+        for (int what = 0; what < 5; what++) {
+            int w = what;
+            Edges.places(check, "block, what " + what, 0, 7, k -> x.told(k, w));
+        }
+    }
+
+    // "(looked at last)"
+    private static void numbersComeBeforePlaces(Check check) {
         ScanForge x = new ScanForge();
         for (int what : new int[] {-1, 5, Integer.MIN_VALUE, Integer.MAX_VALUE}) {
-            check.raises("what " + what, Check.BAD_NUMBER, () -> x.told(0, what));
-            check.raises("what first " + what, Check.BAD_NUMBER, () -> x.told(8, what));
-        }
-        for (int k : new int[] {-1, 8, Integer.MIN_VALUE, Integer.MAX_VALUE}) {
-            for (int what = 0; what < 5; what++) {
-                int w = what;
-                check.raises("block " + k, Check.BAD_PLACE, () -> x.told(k, w));
+            for (int k : new int[] {-1, 8, Integer.MIN_VALUE, Integer.MAX_VALUE}) {
+                check.raises("block " + k + " what " + what, Check.BAD_NUMBER, () -> x.told(k, what));
             }
         }
     }
